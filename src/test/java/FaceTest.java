@@ -1,0 +1,124 @@
+import java.lang.reflect.Constructor;
+import java.lang.reflect.Field;
+import java.lang.reflect.Method;
+import java.lang.reflect.Modifier;
+import java.nio.file.Files;
+import java.nio.file.Path;
+import java.util.Set;
+import java.util.TreeSet;
+import java.util.regex.Matcher;
+import java.util.regex.Pattern;
+
+/** The face of the document, and those rules of LANGUAGE.md that can be read from the class and its text. */
+public final class FaceTest {
+    private static final Due due = new Due();
+    private static final String[] FACE = {"member(int,long)", "join(int,int)", "leave(int)", "turn(int)", "fall(int)",
+        "rise(int)", "deliver(int)", "lose(int)", "twice(int)", "cut(int,int)", "heal(int,int)", "letters(int)",
+        "underWay(int)", "letter(int,int)", "carries(int,int,int)", "state(int,int)", "news(int,int,int)",
+        "as(int,int,int)", "round(int,int)", "next(int)", "copy(int,int,int,int)", "table(int)", "agree()",
+        "apart(int)", "count(int,int)", "way(int,int)", "wayAt(int)", "forge(int,int)", "check(int,int,int,int)",
+        "replay()", "image()", "back()", "trace(int)", "again()", "status(int)"};
+    private static final String[] CONSTANTS = {"NONE", "MISSING", "BEYOND", "BELOW", "KIND", "COPY", "NOTHING",
+        "DOWN", "NO", "FULL"};
+    private static final String[] RULED_OUT = {"\\bthrow\\b", "\\bthrows\\b", "\\btry\\b", "\\bcatch\\b",
+        "\\bsynchronized\\b", "\\bassert\\b", "\\bsuper\\b", "->", "::", "\\bpackage\\b", "Exact\\b",
+        "\\bfloat\\b", "\\bdouble\\b", "\\bhashCode\\b", "\\btoString\\b", "\\bequals\\b", "\\bSystem\\.(?!arraycopy\\b)",
+        "\\bimport (?!java\\.util\\.Arrays;)", "@"};
+
+    private static void face() throws Exception {
+        due.part("the face");
+        Set<String> names = new TreeSet<>();
+        Set<String> seen = new TreeSet<>();
+        for (Method m : CrowdRoll.class.getDeclaredMethods()) {
+            if (Modifier.isPublic(m.getModifiers())) {
+                names.add(m.getName());
+                String args = m.toString().replaceAll(".*\\(", "(");
+                seen.add(m.getName() + args);
+                due.holds(m + " answers an int", m.getReturnType() == int.class);
+            }
+        }
+        due.holds("all methods and no other: " + seen, seen.equals(new TreeSet<>(Set.of(FACE))));
+        for (Method m : CrowdRoll.class.getDeclaredMethods()) {
+            int mods = m.getModifiers();
+            due.holds(m + " is public or private", Modifier.isPublic(mods) || Modifier.isPrivate(mods));
+            due.holds(m + " bears no public name", Modifier.isPublic(mods) || !names.contains(m.getName()));
+        }
+        for (int i = 0; i < CONSTANTS.length; i++) {
+            due.is(CONSTANTS[i], CrowdRoll.class.getField(CONSTANTS[i]).getInt(null), -1 - i);
+        }
+        due.is("public fields", CrowdRoll.class.getFields().length, CONSTANTS.length);
+        due.is("constructors", CrowdRoll.class.getDeclaredConstructors().length, 1);
+        due.is("public constructors", CrowdRoll.class.getConstructors().length, 1);
+        due.holds("public and final", (CrowdRoll.class.getModifiers() & (Modifier.PUBLIC | Modifier.FINAL))
+                == (Modifier.PUBLIC | Modifier.FINAL));
+    }
+
+    private static void classes() {
+        due.part("rules 1, 2, 5, 11");
+        Class<?>[] inside = CrowdRoll.class.getDeclaredClasses();
+        due.holds("twelve classes at most", inside.length < 12);
+        fieldsOf(CrowdRoll.class);
+        for (Class<?> c : inside) {
+            due.holds(c + " is static", Modifier.isStatic(c.getModifiers()));
+            due.holds(c + " is not public", !Modifier.isPublic(c.getModifiers()) && !Modifier.isProtected(c.getModifiers()));
+            fieldsOf(c);
+            for (Method m : c.getDeclaredMethods()) {
+                due.holds(m + " takes seven at most", m.getParameterCount() <= 7);
+            }
+            for (Constructor<?> k : c.getDeclaredConstructors()) {
+                due.holds(k + " takes seven at most", k.getParameterCount() <= 7);
+            }
+        }
+    }
+
+    private static void fieldsOf(Class<?> c) {
+        int own = 0;
+        for (Field f : c.getDeclaredFields()) {
+            int mods = f.getModifiers();
+            if (Modifier.isStatic(mods)) {
+                due.holds(f + " is final", Modifier.isFinal(mods));
+                due.holds(f + " is a number", f.getType() == int.class || f.getType() == long.class);
+            } else {
+                own++;
+            }
+            due.holds(f + " is not seen outside", c != CrowdRoll.class || Modifier.isPrivate(mods)
+                    || Modifier.isPublic(mods) && Modifier.isStatic(mods));
+        }
+        due.holds(c + " has twenty fields at most", own <= 20);
+    }
+
+    private static void text() throws Exception {
+        due.part("rules 4, 6, 11, 13");
+        String source = Files.readString(Path.of("src/main/java/CrowdRoll.java"));
+        String code = source.replaceAll("(?s)/\\*.*?\\*/", "").replaceAll("//[^\n]*", "");
+        for (String word : RULED_OUT) {
+            Matcher found = Pattern.compile(word).matcher(code);
+            due.holds("without " + word, !found.find());
+        }
+        methodsAreShort(source);
+    }
+
+    /** A method ends at the brace that stands as far in as its first line. */
+    private static void methodsAreShort(String source) {
+        String start = "";
+        int at = 0;
+        String[] lines = source.split("\n");
+        for (int i = 0; i < lines.length; i++) {
+            String line = lines[i];
+            String margin = line.replaceAll("\\S.*", "");
+            if (line.matches("\\s+[^=;]*\\) \\{") && !line.matches("\\s+(if|for|while|switch|\\}).*")) {
+                start = margin;
+                at = i;
+            } else if (line.equals(start + "}")) {
+                due.holds("the method at line " + (at + 1) + " has sixty lines at most", i - at < 60);
+            }
+        }
+    }
+
+    public static void main(String[] args) throws Exception {
+        face();
+        classes();
+        text();
+        due.finish();
+    }
+}
