@@ -175,6 +175,10 @@ public final class ActsTest {
         due.is("an empty round", x.state(0, 10), 0);
         due.is("its place", x.state(0, 11), 0);
         due.is("asked", x.state(0, 8), NONE);
+        due.is("bid for, though it is gone", x.state(0, 9), 1);
+        x.turn(0);
+        due.is("bid for no more", x.state(0, 9), NONE);
+        due.is("one that is gone is not doubted", x.news(0, 1, 0), 3);
         due.part("promise 5, wrong inputs");
         due.is("turn(5)", x.turn(5), MISSING);
         due.is("turn(64)", x.turn(64), BEYOND);

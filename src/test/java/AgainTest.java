@@ -235,13 +235,14 @@ public final class AgainTest {
         due.part("room for letters, the edge");
         CrowdRoll x = Crowds.joined(24);
         int calls = 96;
-        while (x.letters(0) < 1192) {
+        while (x.letters(0) < 1192 && calls < 480) {
             x.turn(calls % 24);
             calls++;
         }
         int open = x.underWay(0);
-        while (x.letters(0) < 1196) {
-            due.is("twice", x.twice(open), x.letters(0) - 1);
+        for (int l = x.letters(0); l < 1196 && calls < 500; l++) {
+            due.is("twice", x.twice(open), l);
+            calls++;
         }
         due.is("1196 letters leave room for 4", x.twice(open), 1196);
         due.is("1197 do not", x.twice(open), FULL);
@@ -255,7 +256,7 @@ public final class AgainTest {
         }
         int whole = x.letters(0) - 1;
         int calls = 64 + 126;
-        while (x.letters(4) + 64 <= 19800) {
+        while (x.letters(4) + 64 <= 19800 && calls < 500) {
             x.twice(whole);
             calls++;
         }

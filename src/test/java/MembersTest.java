@@ -187,6 +187,7 @@ public final class MembersTest {
         int max = Integer.MAX_VALUE;
         due.is("copy(0, max, max, 0)", x.copy(0, max, max, 0), CrowdRoll.COPY);
         due.is("copy(0, 1, max, 0)", x.copy(0, 1, max, 0), CrowdRoll.COPY);
+        due.is("copy(0, max, 1, 0)", x.copy(0, max, 1, 0), CrowdRoll.COPY);
         due.is("copy(0, 0, 1, max)", x.copy(0, 0, 1, max), CrowdRoll.COPY);
         due.is("copy(0, min, 1, min)", x.copy(0, Integer.MIN_VALUE, 1, Integer.MIN_VALUE), CrowdRoll.COPY);
         due.is("copy(0, -1, -1, -1): below before copy", x.copy(0, -1, -1, -1), CrowdRoll.BELOW);

@@ -97,6 +97,27 @@ public final class WaysTest {
         due.is("the books stay when the roll is forgotten", x.check(0, 2, 1, 1), 1);
     }
 
+    /** Each letter of a way keeps the next one, and the last one NONE. */
+    private static void checkKept() {
+        due.part("promise 30, kept letters");
+        CrowdRoll x = Crowds.strangers(3);
+        int first = x.join(2, 1);
+        int copy = x.twice(first);
+        x.deliver(first);
+        x.deliver(copy);
+        int join = x.join(1, 0);
+        x.deliver(join);
+        x.way(0, 2);
+        due.is("as told", x.check(0, 2, 1, 1), 1);
+        x.forge(1, copy);
+        due.is("a copy that was delivered, but is not what is kept", x.check(0, 2, 1, 1), 0);
+        due.is("a way of one", x.way(1, 2), 1);
+        x.forge(0, copy);
+        due.is("the copy stands for itself", x.check(1, 2, 1, 1), 1);
+        x.forge(0, join);
+        due.is("a last one that keeps another", x.check(0, 2, 1, 1), 0);
+    }
+
     private static void checkOwnWord() {
         due.part("promise 30, a way of none");
         CrowdRoll x = chain();
@@ -119,6 +140,7 @@ public final class WaysTest {
         wayOfCopy();
         forge();
         check();
+        checkKept();
         checkOwnWord();
         due.finish();
     }
