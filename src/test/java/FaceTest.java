@@ -21,9 +21,12 @@ public final class FaceTest {
     private static final String[] CONSTANTS = {"NONE", "MISSING", "BEYOND", "BELOW", "KIND", "COPY", "NOTHING",
         "DOWN", "NO", "FULL"};
     private static final String[] RULED_OUT = {"\\bthrow\\b", "\\bthrows\\b", "\\btry\\b", "\\bcatch\\b",
-        "\\bsynchronized\\b", "\\bassert\\b", "\\bsuper\\b", "->", "::", "\\bpackage\\b", "Exact\\b",
-        "\\bfloat\\b", "\\bdouble\\b", "\\bhashCode\\b", "\\btoString\\b", "\\bequals\\b", "\\bSystem\\.(?!arraycopy\\b)",
-        "\\bimport (?!java\\.util\\.Arrays;)", "@"};
+        "\\bsynchronized\\b", "\\bassert\\b", "::", "\\bpackage\\b", "Exact\\b", "\\bhashCode\\b", "\\bstatic \\{",
+        "\\bSystem\\.(?!arraycopy\\b)", "\\bMath\\.random\\b", "\\bimport (?!java\\.util\\.(Arrays|ArrayList|List|Iterator);)",
+        "(?m)^(?!\\s*(case|default)\\b).*->"};
+
+    private static final Set<Class<?>> CONSTANT_TYPES = Set.of(int.class, long.class, boolean.class, char.class,
+        String.class, int[].class, long[].class, char[].class, byte[].class);
 
     private static void face() throws Exception {
         due.part("the face");
@@ -77,7 +80,7 @@ public final class FaceTest {
             int mods = f.getModifiers();
             if (Modifier.isStatic(mods)) {
                 due.holds(f + " is final", Modifier.isFinal(mods));
-                due.holds(f + " is a number", f.getType() == int.class || f.getType() == long.class);
+                due.holds(f + " is of a type for constants", c.isEnum() || CONSTANT_TYPES.contains(f.getType()));
             } else {
                 own++;
             }

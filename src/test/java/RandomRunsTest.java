@@ -1,3 +1,5 @@
+import java.util.Collections;
+import java.util.List;
 import java.util.Random;
 
 /** Promises 1 to 36 together: many runs of calls, each answer compared with PlainCrowd's. */
@@ -11,25 +13,37 @@ public final class RandomRunsTest {
         1, 2, 3, 4, 5, 6, 7, 8, 11, 12, 15, 16, 17, 62, 63, 64, 65, 1199, 1200, Integer.MAX_VALUE - 1,
         Integer.MAX_VALUE};
 
+    // One more question, of nine calls at most, then the traces and a replay.
+    private static final int CALLS_AT_END = 22;
+
     private final Due due = new Due();
     private final Random random;
-    private final CrowdRoll roll = new CrowdRoll();
+    private final Roll roll = new Roll();
     private final PlainCrowd plain = new PlainCrowd();
     private final int crowd;
-    private int calls = 0;
+    private final List<Integer> names;
     private boolean right = true;
 
     private RandomRunsTest(long seed) {
         random = new Random(seed);
         int[] sizes = {2, 3, 4, 5, 6, 8, 12, 20, 40};
         crowd = sizes[random.nextInt(sizes.length)];
+        names = namesFor();
         due.part("random run " + seed);
+    }
+
+    /** Half of the crowds are 0 .. n-1, the others have numbers from all of 0 .. 63. */
+    private List<Integer> namesFor() {
+        List<Integer> all = Crowds.range(0, 63);
+        if (random.nextBoolean()) {
+            Collections.shuffle(all, random);
+        }
+        return all.subList(0, crowd);
     }
 
     private int call(String name, int a, int b, int c, int d, long seed) {
         int want = plain.call(name, a, b, c, d, seed);
-        int got = Face.call(roll, name, a, b, c, d, seed);
-        calls++;
+        int got = roll.call(name, a, b, c, d, seed);
         if (got != want) {
             right = false;
             due.is(name + "(" + a + ", " + b + ", " + c + ", " + d + ", " + seed + ")", got, want);
@@ -43,10 +57,10 @@ public final class RandomRunsTest {
 
     private void gather() {
         for (int m = 0; m < crowd; m++) {
-            call("member", m, 0, 0, 0, random.nextInt(4) == 0 ? random.nextInt(3) : random.nextLong());
+            call("member", names.get(m), 0, 0, 0, random.nextInt(4) == 0 ? random.nextInt(3) : random.nextLong());
         }
-        for (int m = 1; m < crowd && calls < 300; m++) {
-            int first = call("join", m, random.nextInt(3) == 0 ? random.nextInt(m) : 0);
+        for (int m = 1; m < crowd && roll.callsLeft() > 200; m++) {
+            int first = call("join", names.get(m), names.get(random.nextInt(3) == 0 ? random.nextInt(m) : 0));
             call("deliver", first, 0);
             if (random.nextInt(10) != 0) {
                 call("deliver", call("letters", 0, 0) - 1, 0);
@@ -55,7 +69,7 @@ public final class RandomRunsTest {
     }
 
     private int someMember() {
-        return random.nextInt(25) == 0 ? EDGES[random.nextInt(EDGES.length)] : random.nextInt(crowd);
+        return random.nextInt(25) == 0 ? EDGES[random.nextInt(EDGES.length)] : names.get(random.nextInt(crowd));
     }
 
     private int someLetter() {
@@ -135,14 +149,14 @@ public final class RandomRunsTest {
         }
         int quiet = 20 + random.nextInt(60);
         int share = 30 + random.nextInt(65);
-        while (calls < 500 && right) {
+        while (roll.callsLeft() > CALLS_AT_END && right) {
             if (random.nextInt(100) < share) {
                 act(quiet);
             } else {
                 question();
             }
         }
-        for (int t = 0; t < 11; t++) {
+        for (int t = 0; t <= 11; t++) {
             call("trace", t, 0);
         }
         call("replay", 0, 0);

@@ -13,36 +13,37 @@ public final class RoomTest {
         return THREADS.getCurrentThreadAllocatedBytes();
     }
 
-    private static void within(String what, long before, long most) {
+    private static void within(String what, long before) {
         long bytes = taken() - before;
-        due.holds(what + " takes " + bytes + " bytes, " + most + " are free", bytes <= most);
+        due.holds(what + " takes " + bytes + " bytes, " + ROOM + " are free", bytes <= ROOM);
     }
 
-    private static CrowdRoll large() {
-        CrowdRoll x = Crowds.strangers(64);
-        for (int m = 1; m < 64; m++) {
-            x.deliver(x.join(m, 0));
-        }
-        int whole = x.letters(0) - 1;
-        while (x.letters(4) <= 19800) {
-            x.twice(whole);
-        }
-        return x;
-    }
-
-    private static void largestObject() {
+    private static void allLetters() {
         long before = taken();
-        CrowdRoll x = large();
-        x.image();
-        x.replay();
-        x.back();
-        within("an object with all its letters, image and replay", before, ROOM / 4);
-        before = taken();
-        for (int i = 0; i < 100; i++) {
-            sink += x.image() + x.replay() + x.back() + x.agree() + x.apart(0) + x.way(0, 63) + x.check(0, 63, 1, 1)
+        Roll x = Rooms.withLetters(1200);
+        dearCalls(x);
+        within("all letters, image and replay", before);
+    }
+
+    private static void allPieces() {
+        long before = taken();
+        Roll x = Rooms.withPieces(19801);
+        dearCalls(x);
+        within("all pieces, image and replay", before);
+    }
+
+    /** A small crowd, so that nearly all calls can be the dear ones. */
+    private static void dearCallsAlone() {
+        long before = taken();
+        dearCalls(Crowds.hub(40, 1L));
+        within("hundreds of dear calls", before);
+    }
+
+    private static void dearCalls(Roll x) {
+        while (x.callsLeft() > 10) {
+            sink += x.image() + x.replay() + x.back() + x.agree() + x.apart(0) + x.way(0, 38) + x.check(0, 38, 1, 1)
                     + x.next(0) + x.turn(0);
         }
-        within("calls of an object that has its room", before, 4096);
     }
 
     private static void manyObjects() {
@@ -51,25 +52,30 @@ public final class RoomTest {
             CrowdRoll x = new CrowdRoll();
             sink += x.member(0, 1L) + x.member(1, 1L) + x.join(0, 1) + x.deliver(0);
         }
-        within("512 small objects", before, ROOM);
+        within("512 small objects", before);
     }
 
-    /** What such calls answer is free, but none may throw or take more and more room. */
+    /** What a late call answers is free, but LANGUAGE.md, rule 7, wants that none throws or fails to end. */
     private static void longLife() {
-        CrowdRoll x = Crowds.joined(3);
-        x.image();
-        long before = taken();
-        for (int i = 0; i < 10000; i++) {
-            sink += x.cut(i % 64, 7) + x.heal(7, i % 64) + x.twice(i % 1300);
+        due.sentence("What it is", "An object is used for at most 512 calls after it has been made; what later calls answer is"
+                + " free.");
+        CrowdRoll x = new CrowdRoll();
+        for (int m = 0; m < 64; m++) {
+            x.member(m, m);
         }
-        sink += x.replay() + x.image() + x.back();
-        within("a long life", before, ROOM);
+        x.image();
+        for (int i = 0; i < 5000; i++) {
+            sink += x.cut(i % 64, 7) + x.heal(7, i % 64) + x.join(i % 64, 5) + x.deliver(i) + x.twice(i) + x.turn(i % 64);
+        }
+        sink += x.replay() + x.image() + x.back() + x.status(0) + x.leave(0);
+        due.holds("it came to its end", true);
     }
 
     public static void main(String[] args) {
         due.part("room");
-        sink += large().replay();
-        largestObject();
+        allLetters();
+        allPieces();
+        dearCallsAlone();
         manyObjects();
         longLife();
         due.finish();
