@@ -56,6 +56,23 @@ public final class AgainTest {
         due.is("refused acts are not done", x.replay(), 1);
     }
 
+    /** Each time from the beginning: links are whole there, and there is room for all the letters and acts. */
+    private static void replayOften() {
+        due.sentence("Promise 31", "done anew from the beginning");
+        Roll x = Crowds.joined(3);
+        x.lose(x.join(0, 1));
+        x.cut(0, 1);
+        x.deliver(x.join(0, 1));
+        for (int i = 0; i < 3; i++) {
+            due.is("replay() of letters on a link that is cut now", x.replay(), 1);
+        }
+        x = Rooms.withLetters(1200);
+        while (x.callsLeft() > 1) {
+            due.is("replay() of a full object", x.replay(), 1);
+        }
+        due.holds("acts", x.status(0) > 300);
+    }
+
     private static void replayBesideImage() {
         due.sentence("Promise 31", "from the beginning, beside what there is");
         Roll x = Crowds.joined(2);
@@ -84,17 +101,46 @@ public final class AgainTest {
         List<Integer> before = Crowds.tell(x, 3, 5);
         x.heal(1, 2);
         x.cut(0, 1);
-        x.turn(0);
+        Crowds.turns(x, 0, 9);
         x.deliver(4);
+        x.lose(5);
         x.member(50, 1L);
         x.leave(1);
+        x.rise(1);
         x.fall(0);
+        x.rise(0);
         due.is("back()", x.back(), 11);
         due.holds("all is as it was", Crowds.tell(x, 3, 5).equals(before));
         due.is("a link that was cut", x.cut(1, 2), 0);
         due.is("a link that was whole", x.heal(0, 1), 0);
         due.is("a member that was not made", x.state(50, 0), MISSING);
         due.is("is made for the first time", x.member(50, 1L), 4);
+    }
+
+    /** Each thing that is told of members and letters is another one when the image is left. */
+    private static void imageOfEachThing() {
+        due.sentence("Promise 32", "An IMAGE of all (members, letters, links, acts, TRACE");
+        Roll x = Crowds.star(4);
+        Crowds.turns(x, 0, 4);
+        x.deliver(6);
+        x.lose(7);
+        List<Integer> before = Crowds.tell(x, 4, 3);
+        List<Integer> then = List.of(x.round(0, 0), x.round(0, 1), x.round(0, 2), x.letters(2), x.letters(3));
+        int acts = x.image();
+        Crowds.leaveStar(x, 2);
+        x.fall(0);
+        x.rise(0);
+        x.rise(2);
+        Crowds.meet(x, 3, 0);
+        Crowds.meet(x, 2, 0);
+        x.lose(8);
+        x.deliver(9);
+        Crowds.turns(x, 0, 5);
+        due.holds("the ROUND is another one", x.round(0, 0) != then.get(0) || x.round(0, 1) != then.get(1));
+        due.is("back()", x.back(), acts);
+        due.holds("all is as it was", Crowds.tell(x, 4, 3).equals(before));
+        due.holds("the ROUND, delivered and LOST", then.equals(
+                List.of(x.round(0, 0), x.round(0, 1), x.round(0, 2), x.letters(2), x.letters(3))));
     }
 
     private static void imageLeavesTableWayRefusals() {
@@ -280,18 +326,48 @@ public final class AgainTest {
             "wayAt", "forge", "check"}) {
             refusedThenAgain(x, name, -1, 0, 0, 0, BEYOND);
         }
+        for (String name : new String[] {"join", "leave", "turn", "fall", "rise", "deliver", "lose", "twice", "state", "news",
+            "as", "round", "next", "copy", "way", "check"}) {
+            boolean ofLetter = List.of("deliver", "lose", "twice").contains(name);
+            refusedThenAgain(x, name, ofLetter ? 0 : 9, 0, 0, 0, MISSING);
+        }
+        x = Rooms.withLetters(1197);
+        refusedThenAgain(x, "turn", 0, 0, 0, 0, FULL);
+    }
+
+    private static void againOfTheRest() {
+        due.sentence("Promise 35", "The latest refusal, of any call");
+        Roll x = Crowds.joined(3);
+        x.fall(2);
+        for (String name : new String[] {"leave", "turn", "fall", "next"}) {
+            refusedThenAgain(x, name, 2, 0, 0, 0, DOWN);
+        }
+        refusedThenAgain(x, "join", 2, 0, 0, 0, DOWN);
+        for (String name : new String[] {"member", "join", "rise", "cut", "heal"}) {
+            refusedThenAgain(x, name, 0, 0, 0, 0, NO);
+        }
         for (String name : new String[] {"letters", "apart", "trace", "status"}) {
             refusedThenAgain(x, name, 99, 0, 0, 0, NO);
         }
+        for (String name : new String[] {"letter", "state", "count"}) {
+            refusedThenAgain(x, name, 0, 99, 0, 0, NO);
+        }
+        for (String name : new String[] {"carries", "news", "as"}) {
+            refusedThenAgain(x, name, 0, 0, 99, 0, NO);
+        }
         refusedThenAgain(x, "back", 0, 0, 0, 0, NO);
-        refusedThenAgain(x, "turn", 9, 0, 0, 0, MISSING);
+        refusedThenAgain(x, "round", 0, 0, 0, 0, BEYOND);
+        refusedThenAgain(x, "carries", 0, 9, 0, 0, BEYOND);
+        refusedThenAgain(x, "news", 0, 64, 0, 0, BEYOND);
+        refusedThenAgain(x, "news", 0, 9, 0, 0, MISSING);
+        refusedThenAgain(x, "as", 0, 9, 1, 0, MISSING);
+        refusedThenAgain(x, "way", 0, 9, 0, 0, MISSING);
         refusedThenAgain(x, "copy", 0, 0, -1, 0, BELOW);
         refusedThenAgain(x, "copy", 0, 0, 1, 0, COPY);
         refusedThenAgain(x, "as", 0, 0, 2, 0, KIND);
-        x.fall(1);
-        refusedThenAgain(x, "next", 1, 0, 0, 0, DOWN);
-        x = Rooms.withLetters(1197);
-        refusedThenAgain(x, "turn", 0, 0, 0, 0, FULL);
+        x.again();
+        due.part("and all of these were counted");
+        statusIs(x, 3, 3, 1, 1, 1, 0, 5, 16, 0);
     }
 
     private static void latest() {
@@ -393,8 +469,10 @@ public final class AgainTest {
 
     public static void main(String[] args) {
         replay();
+        replayOften();
         replayBesideImage();
         image();
+        imageOfEachThing();
         imageLeavesTableWayRefusals();
         imageBeforeGoes();
         back();
@@ -405,6 +483,7 @@ public final class AgainTest {
         traceOfActsThatWereDone();
         traceOfNothing();
         again();
+        againOfTheRest();
         latest();
         status();
         statusOfActs();

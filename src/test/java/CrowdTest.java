@@ -58,6 +58,20 @@ public final class CrowdTest {
         due.is("that both have", x.agree(), 1);
     }
 
+    /** One that has forgotten somebody is as one that never knew it. */
+    private static void agreeAfterFall() {
+        due.sentence("Promise 24", "ROLLS with the same news");
+        Roll x = Crowds.joined(3);
+        x.fall(1);
+        x.fall(2);
+        x.fall(0);
+        x.rise(0);
+        x.member(3, 1L);
+        Crowds.meet(x, 3, 0);
+        due.is("0 has news of itself and 3", x.state(0, 3), 2);
+        apart(x, NONE, NONE, NONE);
+    }
+
     private static void firstApart() {
         due.sentence("Promise 25", "The first two members a < b (the least a, then the least b) that are UP and differ in news of"
                 + " some x, the least: a (what = 0), b (1), x (2); NONE if there are none.");
@@ -151,6 +165,7 @@ public final class CrowdTest {
     public static void main(String[] args) {
         agree();
         agreeByKind();
+        agreeAfterFall();
         firstApart();
         apartAtTheEnds();
         apartOfNothing();

@@ -214,6 +214,31 @@ public final class MembersTest {
         due.is("and its place", x.state(0, 11), 1);
     }
 
+    /** Turn by turn, while doubts grow old: the next one of the round as it stands, whatever the turn will do first. */
+    private static void nextByTheRound() {
+        due.sentence("Promise 21", "Whom m would ask if it took its TURN's last step now");
+        int byRound = 0;
+        int aged = 0;
+        for (long seed = 1; seed <= 6; seed++) {
+            Roll x = Crowds.hub(5, seed);
+            for (int t = 1; t <= 11; t++) {
+                x.turn(0);
+                int place = x.state(0, 11);
+                while (place < x.state(0, 10) && x.news(0, x.round(0, place), 0) > 2) {
+                    place++;
+                }
+                if (place < x.state(0, 10)) {
+                    int whom = x.round(0, place);
+                    due.is("next(0) after TURN " + t, x.next(0), whom);
+                    byRound++;
+                    aged += x.news(0, whom, 0) == 2 && t + 1 - x.news(0, whom, 3) >= 5 ? 1 : 0;
+                }
+            }
+        }
+        due.holds("that was seen", byRound > 20);
+        due.holds("with one that is GONE in the TURN to come, too", aged > 0);
+    }
+
     private static void nextBeyond() {
         due.sentence("Promise 21", "BEYOND, MISSING, DOWN.");
         Roll x = Crowds.joined(3);
@@ -253,7 +278,7 @@ public final class MembersTest {
         due.is("table(15)", x.table(15), x.round(0, 62));
         due.is("17 of 63", x.copy(0, 0, 17, 0), COPY);
         x.fall(0);
-        due.is("the TABLE stays", x.table(15) >= 0 ? 1 : 0, 1);
+        due.holds("the TABLE stays", x.table(15) > 0);
     }
 
     private static void copyOfNone() {
@@ -330,6 +355,7 @@ public final class MembersTest {
         roundBeyond();
         next();
         nextIsTheLastStep();
+        nextByTheRound();
         nextBeyond();
         copy();
         copyOfNone();

@@ -9,6 +9,8 @@ public final class NewsTest {
     private static final int NONE = CrowdRoll.NONE;
     private static final long[] SEEDS = {0L, 1L, -1L, 42L, Long.MAX_VALUE, Long.MIN_VALUE, 1L << 32, -1L << 32,
         0x7FFFFFFFL, 0x80000000L, 0xFFFFFFFFL, 6364136223846793005L, -1442695040888963407L};
+    /** KIND and TERM of the news of member 0 on each of the letters that lettersOf0 makes. */
+    private static final int[][] LETTERS_OF_0 = {{1, 1}, {2, 1}, {3, 1}, {4, 1}, {1, 2}, {4, 2}};
 
     private static void kinds() {
         due.sentence(PART, "NEWS of a member: a KIND, 1 ALIVE, 2 DOUBTED, 3 GONE, 4 LEFT, and a TERM.");
@@ -41,8 +43,6 @@ public final class NewsTest {
         int leftAgain = Crowds.lastLetter(x);
         return new int[] {alive, doubted, gone, left, aliveAgain, leftAgain};
     }
-
-    private static final int[][] LETTERS_OF_0 = {{1, 1}, {2, 1}, {3, 1}, {4, 1}, {1, 2}, {4, 2}};
 
     private static void beats() {
         due.sentence(PART, "One piece BEATS another one of the same member if its TERM is greater, or its TERM is the"

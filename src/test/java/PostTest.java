@@ -30,7 +30,7 @@ public final class PostTest {
         due.letter(x, 4, JOIN, 0, 1, NONE, 1);
     }
 
-    /** One asks and bids, another helps: after this the letters from first on are of all kinds but JOIN and FULL. */
+    /** Of three that know each other 0 asks one and bids the other one to help; answers the BID, an ASK is behind it. */
     private static int bidTold(Roll x) {
         x.turn(0);
         int asked = x.state(0, 8);
@@ -387,9 +387,7 @@ public final class PostTest {
         due.is("an ANSWER of one that it does not wait for", x.state(0, 8), 3 - first);
         x.deliver(x.join(3 - first, 0));
         due.is("a JOIN is no ANSWER", x.state(0, 8), 3 - first);
-        Crowds.meet(x, 3 - first, 0);
-        x.deliver(x.join(0, 3 - first));
-        x.deliver(Crowds.lastLetter(x));
+        Crowds.meet(x, 0, 3 - first);
         due.is("a FULL is no ANSWER", x.state(0, 8), 3 - first);
     }
 
