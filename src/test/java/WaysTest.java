@@ -63,6 +63,20 @@ public final class WaysTest {
         }
     }
 
+    /** The same news on its way through the crowd: a way of each length stands. */
+    private static void wayOfEachLength() {
+        due.sentence("Promise 27", "and so on, to one that has NONE: how many.");
+        Roll x = new Roll();
+        x.member(0, 1L);
+        for (int m = 1; m < 64; m++) {
+            x.member(m, 1L);
+            x.deliver(x.join(m - 1, m));
+            due.is("way(" + m + ", 0)", x.way(m, 0), m);
+            due.is("its last letter", x.wayAt(m - 1), 0);
+            due.is("check", x.check(m, 0, 1, 1), 1);
+        }
+    }
+
     private static void wayOfCopy() {
         due.sentence("Promise 27", "the letter that brought it to the sender of that (as that piece keeps it)");
         Roll x = Crowds.strangers(3);
@@ -299,6 +313,7 @@ public final class WaysTest {
     public static void main(String[] args) {
         ways();
         longWay();
+        wayOfEachLength();
         wayOfCopy();
         wayBeyond();
         wayAt();
