@@ -4,6 +4,8 @@ import java.lang.reflect.Method;
 import java.lang.reflect.Modifier;
 import java.nio.file.Files;
 import java.nio.file.Path;
+import java.util.ArrayList;
+import java.util.List;
 import java.util.Set;
 import java.util.TreeSet;
 import java.util.regex.Matcher;
@@ -25,6 +27,7 @@ public final class FaceTest {
         "\\bSystem\\.(?!arraycopy\\b)", "\\bMath\\.random\\b", "\\bimport (?!java\\.util\\.(Arrays|ArrayList|List|Iterator);)",
         "(?m)^(?!\\s*(case|default)\\b).*->"};
 
+    private static final Path SOURCE = Path.of("src/main/java/CrowdRoll.java");
     private static final Set<Class<?>> CONSTANT_TYPES = Set.of(int.class, long.class, boolean.class, char.class,
         String.class, int[].class, long[].class, char[].class, byte[].class);
 
@@ -54,6 +57,56 @@ public final class FaceTest {
         due.is("public constructors", CrowdRoll.class.getConstructors().length, 1);
         due.holds("public and final", (CrowdRoll.class.getModifiers() & (Modifier.PUBLIC | Modifier.FINAL))
                 == (Modifier.PUBLIC | Modifier.FINAL));
+    }
+
+    /** As the document writes it, with the names of the parameters and in its order. */
+    private static void faceAsWritten() throws Exception {
+        due.part("The public face");
+        List<String> written = new ArrayList<>();
+        for (String line : Files.readAllLines(SOURCE)) {
+            if (line.startsWith("    public ")) {
+                written.add(line.trim().replaceAll("( \\{|;)$", ""));
+            }
+        }
+        List<String> face = Doc.face();
+        due.is("lines of the face", face.size(), CONSTANTS.length + 1 + FACE.length);
+        due.holds("the face is " + face + ", the class has " + written, written.equals(face));
+        List<String> promised = Doc.promised();
+        due.holds("the promises head " + promised, promised.equals(face.subList(CONSTANTS.length, face.size())));
+    }
+
+    private static void groups() throws Exception {
+        due.sentence("Ahead of the calls", "Ahead of the calls `member`, `join`, `leave`, `turn`, `fall`, `rise`, `deliver`,"
+                + " `lose`, `twice`, `cut`, `heal` the interface says: ---- acts.");
+        group("---- acts", 11);
+        due.sentence("Ahead of the calls", "Ahead of the calls `letters`, `underWay`, `letter`, `carries` the interface says:"
+                + " ---- letters.");
+        group("---- letters", 4);
+        due.sentence("Ahead of the calls", "Ahead of the calls `state`, `news`, `as`, `round`, `next`, `copy`, `table` the"
+                + " interface says: ---- members.");
+        group("---- members", 7);
+        due.sentence("Ahead of the calls", "Ahead of the calls `agree`, `apart`, `count` the interface says: ---- all.");
+        group("---- all", 3);
+        due.sentence("Ahead of the calls", "Ahead of the calls `way`, `wayAt`, `forge`, `check` the interface says: ---- ways.");
+        group("---- ways", 4);
+        due.sentence("Ahead of the calls", "Ahead of the calls `replay`, `image`, `back`, `trace`, `again`, `status` the"
+                + " interface says: ---- acts again.");
+        group("---- acts again", 6);
+    }
+
+    private static void group(String title, int size) throws Exception {
+        List<String> want = Doc.groups().getOrDefault(title, List.of());
+        List<String> have = new ArrayList<>();
+        String now = "";
+        for (String line : Files.readAllLines(SOURCE)) {
+            if (line.startsWith("    // ---- ")) {
+                now = line.substring("    // ".length());
+            } else if (now.equals(title) && line.startsWith("    public ")) {
+                have.add(line.replaceAll("\\(.*", "").replaceAll(".* ", ""));
+            }
+        }
+        due.is("calls of " + title, want.size(), size);
+        due.holds(title + " has " + have, have.equals(want));
     }
 
     private static void classes() {
@@ -92,7 +145,7 @@ public final class FaceTest {
 
     private static void text() throws Exception {
         due.part("rules 4, 6, 11, 13");
-        String source = Files.readString(Path.of("src/main/java/CrowdRoll.java"));
+        String source = Files.readString(SOURCE);
         String code = source.replaceAll("(?s)/\\*.*?\\*/", "").replaceAll("//[^\n]*", "");
         for (String word : RULED_OUT) {
             Matcher found = Pattern.compile(word).matcher(code);
@@ -120,6 +173,8 @@ public final class FaceTest {
 
     public static void main(String[] args) throws Exception {
         face();
+        faceAsWritten();
+        groups();
         classes();
         text();
         due.finish();
